@@ -11,9 +11,9 @@ public final class FactBinder {
     private static final int MOST_UNITS = 8;
     private static final int MOST_FACTS = 20;
     private static final int MOST_WRITTEN = 20;
-    // A fact has at most one fault and one twin to tell, an arc is loose or has a wrong sign.
+    // A fact has at most one fault and one twin to tell; no arc is both loose and of wrong sign.
     private static final int MOST_PROBLEMS =
-            2 * MOST_FACTS + 2 * MOST_ARCS + ROLES * (MOST_CONCEPTS + MOST_FACTS);
+            2 * MOST_FACTS + MOST_ARCS + ROLES * (MOST_CONCEPTS + MOST_FACTS);
 
     private static final int REFUSED = -1;
     private static final int NO_UNIT = -1;
@@ -23,6 +23,8 @@ public final class FactBinder {
 
     private static final int TEXT = 0;
     private static final int MONEY = 2;
+
+    private static final int FIRST_CURRENCY = 6;
 
     private static final int SUM = 0;
     private static final int TREE = 1;
@@ -428,7 +430,7 @@ public final class FactBinder {
         }
 
         private boolean isCurrency() {
-            return first >= 6 && second == 0 && below == 0;
+            return first >= FIRST_CURRENCY && second == 0 && below == 0;
         }
     }
 

@@ -51,13 +51,12 @@ public final class DocumentsTest {
         CHECK.no("the first setting is role 0, priority 0 at the most", x.left(0));
 
         FactBinder y = Check.withNumberConcept();
-        y.setting(0, 0, false);
-        y.concept(0, 1, 0, 0);
         y.arc(0, 1, 0, 0, 1);
-        CHECK.problems("role 0 by setting", y, 80000);
-        FactBinder z = Check.withNumberConcept();
-        z.arc(0, 1, 0, 0, 1);
-        CHECK.problems("role 0 at first", z, 80000);
+        y.setting(0, 0, false);
+        y.arc(0, 1, 0, 0, 1);
+        CHECK.yes("the first setting is priority 0 at the least", y.left(0));
+        CHECK.no("so an alike arc of priority 0 is not left", y.left(1));
+        CHECK.problems("the first setting is role 0", y, 80000);
     }
 
     private static void referAnswers() {

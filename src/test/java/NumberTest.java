@@ -1,3 +1,6 @@
+import java.math.BigDecimal;
+import java.math.RoundingMode;
+
 /** Promises 9, 10, 15, 16 and 17: write, fact, value, places and rounded. */
 public final class NumberTest {
     private static final int MIN = Integer.MIN_VALUE;
@@ -20,6 +23,7 @@ public final class NumberTest {
         placesOfOtherModes();
         placesOfPrecision();
         roundingGoesToTheEven();
+        roundingToEveryPlace();
         missingFacts();
         CHECK.finish();
     }
@@ -242,6 +246,16 @@ public final class NumberTest {
         dueRounded(12000, "0.0123", PRECISION, 2);
         dueRounded(0, "2", PRECISION, 0);
         dueRounded(10000000, "7", PRECISION, 0);
+    }
+
+    private static void roundingToEveryPlace() {
+        String[] texts = {"123456789.123456", "-987654321.987654", "444444444.555555", "-555555555.5"};
+        for (String text : texts) {
+            for (int d = -9; d <= 6; d++) {
+                BigDecimal rounded = new BigDecimal(text).setScale(d, RoundingMode.HALF_EVEN);
+                dueRounded(rounded.movePointRight(6).longValueExact(), text, DECIMALS, d);
+            }
+        }
     }
 
     private static void missingFacts() {

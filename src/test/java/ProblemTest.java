@@ -29,6 +29,7 @@ public final class ProblemTest {
         precisionZeroNeverAgrees();
         greatestSum();
         mostProblems();
+        mostSignsAndTotals();
         CHECK.finish();
     }
 
@@ -187,7 +188,7 @@ public final class ProblemTest {
         }
         for (int from = 0; from <= 2; from++) {
             for (int to = 0; to <= 2; to++) {
-                x.arc(0, 0, from, to, 10);
+                x.arc(0, 0, from, to, 1);
                 x.arc(0, 0, from, to, -1);
             }
         }
@@ -198,6 +199,12 @@ public final class ProblemTest {
         x.setting(0, 1, true);
         x.arc(0, 0, 1, 1, -1);
         CHECK.problems("nor has one that is not left", x, 71000, 71400, 71700, 80001);
+
+        FactBinder y = new FactBinder();
+        y.enter(0);
+        y.concept(0, 2, 2, 0);
+        y.arc(0, 0, 0, 0, -90);
+        CHECK.problems("the first arc", y, 70000);
     }
 
     private static void cycles() {
@@ -443,6 +450,17 @@ public final class ProblemTest {
         fact(w, "0", 2, 0, 0, EXACT, 0);
         fact(w, "0", 2, 0, 1, PRECISION, 0);
         CHECK.problems("the first part is of PRECISION 0", w, 90000);
+        fact(w, "1", 0, 0, 1, EXACT, 0);
+        fact(w, "1", 1, 0, 1, EXACT, 0);
+        CHECK.problems("the last part of another total is", w, 90000, 90004);
+
+        FactBinder v = withMoney();
+        v.arc(0, 0, 0, 1, 10);
+        fact(v, "0", 0, 0, 0, EXACT, 0);
+        fact(v, "0", 1, 0, 0, PRECISION, 0);
+        fact(v, "1", 0, 0, 1, EXACT, 0);
+        fact(v, "1", 1, 0, 1, EXACT, 0);
+        CHECK.problems("the total after it agrees", v, 90000);
     }
 
     private static void greatestSum() {
@@ -481,5 +499,30 @@ public final class ProblemTest {
         CHECK.due("problem(39)", 80000, x.problem(39));
         CHECK.due("problem(70)", 80115, x.problem(70));
         CHECK.due("problem(71)", -1, x.problem(71));
+    }
+
+    private static void mostSignsAndTotals() {
+        FactBinder x = new FactBinder();
+        x.enter(0);
+        x.concept(0, 2, 1, 0);
+        for (int a = 0; a < 32; a++) {
+            x.setting(a % 3, 0, false);
+            x.arc(0, 0, 0, 0, -1 - a);
+        }
+        x.unit(6, 0, 0);
+        x.unit(9, 0, 0);
+        for (int day = 0; day < 10; day++) {
+            x.context(0, -1, day, 0);
+            fact(x, "1", 0, day, 0, EXACT, 0);
+            fact(x, "1", 0, day, 1, EXACT, 0);
+        }
+        int[] want = new int[92];
+        for (int k = 0; k < 32; k++) {
+            want[k] = 70000 + 100 * k;
+        }
+        for (int k = 32; k < 92; k++) {
+            want[k] = 90000 + 100 * ((k - 32) / 20) + (k - 32) % 20;
+        }
+        CHECK.problems("32 signs, 60 totals", x, want);
     }
 }

@@ -210,6 +210,7 @@ public final class NumberTest {
         duePlaces(0, "0.123", PRECISION, 0);
         duePlaces(2, "0.1", PRECISION, 2);
         duePlaces(5, "0.000001", PRECISION, 0);
+        duePlaces(5, "-0.000001", PRECISION, 0);
         duePlaces(6, "0.000001", PRECISION, 1);
         duePlaces(6, "0.000001", PRECISION, 15);
         duePlaces(6, "1.5", PRECISION, 15);

@@ -33,11 +33,6 @@ public final class ProblemTest {
         CHECK.finish();
     }
 
-    private static int fact(FactBinder x, String text, int concept, int context, int unit, int mode, int k) {
-        CHECK.write(x, text);
-        return x.fact(concept, context, unit, mode, k);
-    }
-
     /** Money concepts 0, 1 and 2 of document 0, a duration, an instant, the units 6, 7, 1. */
     private static FactBinder withMoney() {
         FactBinder x = new FactBinder();
@@ -56,7 +51,7 @@ public final class ProblemTest {
     private static void problemNumbers() {
         FactBinder x = withMoney();
         CHECK.problems("no facts", x);
-        fact(x, "1", 0, 0, -1, EXACT, 0);
+        CHECK.fact(x, "1", 0, 0, -1, EXACT, 0);
         int[] missing = {-1, 1, 2, 500, MIN, MAX};
         for (int m : missing) {
             CHECK.due("problem(" + m + ")", -1, x.problem(m));
@@ -67,7 +62,7 @@ public final class ProblemTest {
     private static void unknownComesFirst() {
         FactBinder x = withMoney();
         x.concept(4, 0, 0, 1);
-        fact(x, "", 3, 0, -1, 0, 0);
+        CHECK.fact(x, "", 3, 0, -1, 0, 0);
         x.fact(3, 1, 0, EXACT, 0);
         CHECK.problems("an unknown concept has no other fault", x, 10000, 10100);
         x.refer(0, 4);
@@ -85,14 +80,14 @@ public final class ProblemTest {
         x.unit(1, 6, 0);
         x.fact(3, 0, -1, 0, 0);
         x.fact(3, 0, 0, 0, 0);
-        fact(x, "1", 4, 0, -1, EXACT, 0);
-        fact(x, "1", 4, 0, 0, EXACT, 0);
-        fact(x, "1", 4, 0, 2, EXACT, 0);
-        fact(x, "1", 4, 0, 6, EXACT, 0);
+        CHECK.fact(x, "1", 4, 0, -1, EXACT, 0);
+        CHECK.fact(x, "1", 4, 0, 0, EXACT, 0);
+        CHECK.fact(x, "1", 4, 0, 2, EXACT, 0);
+        CHECK.fact(x, "1", 4, 0, 6, EXACT, 0);
         CHECK.problems("text wants none, a number any", x, 20100, 20200);
-        fact(x, "1", 0, 0, -1, EXACT, 0);
+        CHECK.fact(x, "1", 0, 0, -1, EXACT, 0);
         for (int u = 0; u < 8; u++) {
-            fact(x, "1", 0, 0, u, EXACT, 0);
+            CHECK.fact(x, "1", 0, 0, u, EXACT, 0);
         }
         CHECK.problems("money wants one currency", x, 20100, 20200, 20600, 20900, 21000, 21200, 21300, 21400);
     }
@@ -101,14 +96,14 @@ public final class ProblemTest {
         FactBinder x = withMoney();
         x.concept(0, 1, 0, 0);
         x.concept(0, 0, 0, 0);
-        fact(x, "1", 0, 0, 0, EXACT, 0);
-        fact(x, "1", 0, 1, 0, EXACT, 0);
-        fact(x, "1", 3, 0, 0, EXACT, 0);
-        fact(x, "1", 3, 1, 0, EXACT, 0);
+        CHECK.fact(x, "1", 0, 0, 0, EXACT, 0);
+        CHECK.fact(x, "1", 0, 1, 0, EXACT, 0);
+        CHECK.fact(x, "1", 3, 0, 0, EXACT, 0);
+        CHECK.fact(x, "1", 3, 1, 0, EXACT, 0);
         x.fact(4, 0, -1, EXACT, 0);
         x.fact(4, 1, -1, 0, 0);
         CHECK.problems("another kind of period", x, 30100, 30200, 30400);
-        fact(x, "1", 0, 1, -1, 0, 0);
+        CHECK.fact(x, "1", 0, 1, -1, 0, 0);
         CHECK.problems("the unit comes before the period", x, 20600, 30100, 30200, 30400);
     }
 
@@ -121,10 +116,10 @@ public final class ProblemTest {
         x.context(4, 0, 365, 0);
         for (int mode = 0; mode <= 3; mode++) {
             x.fact(3, mode == 0 ? 0 : mode + 1, -1, mode, 0);
-            fact(x, "1", 4, mode == 0 ? 0 : mode + 1, 0, mode, 0);
+            CHECK.fact(x, "1", 4, mode == 0 ? 0 : mode + 1, 0, mode, 0);
         }
         CHECK.problems("text wants no accuracy, a number one", x, 40100, 40200, 40400, 40600);
-        fact(x, "1", 0, 1, 0, 0, 0);
+        CHECK.fact(x, "1", 0, 1, 0, 0, 0);
         CHECK.problems("the period comes before the accuracy", x, 30800, 40100, 40200, 40400, 40600);
     }
 
@@ -132,18 +127,18 @@ public final class ProblemTest {
         FactBinder x = withMoney();
         x.context(1, 0, 365, 0);
         x.unit(6, 0, 0);
-        fact(x, "1", 0, 0, 0, EXACT, 0);
-        fact(x, "2", 1, 0, 0, EXACT, 0);
-        fact(x, "3", 0, 0, 1, EXACT, 0);
+        CHECK.fact(x, "1", 0, 0, 0, EXACT, 0);
+        CHECK.fact(x, "2", 1, 0, 0, EXACT, 0);
+        CHECK.fact(x, "3", 0, 0, 1, EXACT, 0);
         CHECK.problems("another concept or unit is no twin", x);
-        fact(x, "4", 0, 2, 3, EXACT, 0);
+        CHECK.fact(x, "4", 0, 2, 3, EXACT, 0);
         CHECK.problems("equal context and unit", x, 50300);
-        fact(x, "5", 0, 2, 0, DECIMALS, 2);
-        fact(x, "6", 0, 2, 1, DECIMALS, 2);
+        CHECK.fact(x, "5", 0, 2, 0, DECIMALS, 2);
+        CHECK.fact(x, "6", 0, 2, 1, DECIMALS, 2);
         CHECK.problems("the lowest twin is told", x, 50300, 50400, 50502);
-        fact(x, "7", 0, 0, -1, EXACT, 0);
+        CHECK.fact(x, "7", 0, 0, -1, EXACT, 0);
         CHECK.problems("no unit is not a unit", x, 20600, 50300, 50400, 50502);
-        fact(x, "8", 0, 2, -1, EXACT, 0);
+        CHECK.fact(x, "8", 0, 2, -1, EXACT, 0);
         CHECK.problems("both have no unit", x, 20600, 20700, 50300, 50400, 50502, 50706);
 
         FactBinder y = new FactBinder();
@@ -269,13 +264,13 @@ public final class ProblemTest {
         FactBinder x = withMoney();
         x.arc(0, 0, 0, 1, 10);
         x.arc(0, 0, 0, 2, -5);
-        fact(x, "10", 0, 0, 0, DECIMALS, 0);
+        CHECK.fact(x, "10", 0, 0, 0, DECIMALS, 0);
         CHECK.due("without parts it is not bound", 0, x.sum(0, 0));
         CHECK.problems("and has no total", x);
-        fact(x, "12.4", 1, 0, 0, DECIMALS, 0);
+        CHECK.fact(x, "12.4", 1, 0, 0, DECIMALS, 0);
         CHECK.due("one part, rounded", 120000000L, x.sum(0, 0));
         CHECK.problems("12 is not 10", x, 90000);
-        fact(x, "4", 2, 0, 0, DECIMALS, 0);
+        CHECK.fact(x, "4", 2, 0, 0, DECIMALS, 0);
         CHECK.due("two parts, weighted", 100000000L, x.sum(0, 0));
         CHECK.problems("12 less half of 4 is 10", x);
         CHECK.due("a part is not bound", 0, x.sum(0, 1));
@@ -297,15 +292,15 @@ public final class ProblemTest {
     private static void sumNeedsUsableFacts() {
         FactBinder x = withMoney();
         x.arc(0, 0, 0, 1, 10);
-        fact(x, "1", 0, 0, 0, 0, 0);
-        fact(x, "2", 1, 0, 0, EXACT, 0);
+        CHECK.fact(x, "1", 0, 0, 0, 0, 0);
+        CHECK.fact(x, "2", 1, 0, 0, EXACT, 0);
         CHECK.due("a total without accuracy", 0, x.sum(0, 0));
         CHECK.problems("is not bound", x, 40000);
 
         FactBinder y = withMoney();
         y.arc(0, 0, 0, 1, 10);
-        fact(y, "1", 0, 0, 0, EXACT, 0);
-        fact(y, "2", 1, 0, 0, 0, 0);
+        CHECK.fact(y, "1", 0, 0, 0, EXACT, 0);
+        CHECK.fact(y, "2", 1, 0, 0, 0, 0);
         CHECK.due("a part without accuracy", 0, y.sum(0, 0));
         CHECK.problems("is none", y, 40100);
 
@@ -314,7 +309,7 @@ public final class ProblemTest {
         z.arc(0, 0, 3, 3, 10);
         z.arc(0, 0, 0, 3, 10);
         z.fact(3, 0, -1, 0, 0);
-        fact(z, "1", 0, 0, 0, EXACT, 0);
+        CHECK.fact(z, "1", 0, 0, 0, EXACT, 0);
         CHECK.due("a text has no sum", 0, z.sum(0, 0));
         CHECK.due("and is no part", 0, z.sum(0, 1));
         CHECK.problems("so it is not bound", z);
@@ -324,14 +319,14 @@ public final class ProblemTest {
         FactBinder x = withMoney();
         x.arc(0, 0, 0, 1, 10);
         x.arc(0, 0, 0, 2, 10);
-        fact(x, "5", 0, 0, 0, EXACT, 0);
-        fact(x, "2", 1, 0, 0, EXACT, 0);
-        fact(x, "3", 2, 0, 0, EXACT, 0);
+        CHECK.fact(x, "5", 0, 0, 0, EXACT, 0);
+        CHECK.fact(x, "2", 1, 0, 0, EXACT, 0);
+        CHECK.fact(x, "3", 2, 0, 0, EXACT, 0);
         CHECK.problems("2 and 3 are 5", x);
-        fact(x, "2", 1, 0, 0, 0, 0);
+        CHECK.fact(x, "2", 1, 0, 0, 0, 0);
         CHECK.due("a part with an unusable twin", 30000000L, x.sum(0, 0));
         CHECK.problems("is left out", x, 40300, 50301, 90000);
-        fact(x, "5", 0, 0, 0, EXACT, 0);
+        CHECK.fact(x, "5", 0, 0, 0, EXACT, 0);
         CHECK.due("a total with a twin", 0, x.sum(0, 0));
         CHECK.due("is not bound", 0, x.sum(0, 4));
         CHECK.problems("whatever its number", x, 40300, 50301, 50400);
@@ -343,13 +338,13 @@ public final class ProblemTest {
         x.context(2, 0, 365, 0);
         x.unit(6, 0, 0);
         x.arc(0, 0, 0, 1, 10);
-        fact(x, "5", 0, 0, 0, EXACT, 0);
-        fact(x, "1", 1, 3, 0, EXACT, 0);
+        CHECK.fact(x, "5", 0, 0, 0, EXACT, 0);
+        CHECK.fact(x, "1", 1, 3, 0, EXACT, 0);
         CHECK.due("another context", 0, x.sum(0, 0));
-        fact(x, "2", 1, 0, 1, EXACT, 0);
+        CHECK.fact(x, "2", 1, 0, 1, EXACT, 0);
         CHECK.due("another unit", 0, x.sum(0, 0));
         CHECK.problems("no part yet", x);
-        fact(x, "5", 1, 2, 3, EXACT, 0);
+        CHECK.fact(x, "5", 1, 2, 3, EXACT, 0);
         CHECK.due("equal ones of other numbers", 50000000L, x.sum(0, 0));
         CHECK.problems("agrees", x);
     }
@@ -360,8 +355,8 @@ public final class ProblemTest {
         x.arc(0, 0, 0, 1, 10);
         x.setting(1, 0, false);
         x.arc(0, 0, 1, 0, 20);
-        fact(x, "3", 0, 0, 0, EXACT, 0);
-        fact(x, "4", 1, 0, 0, EXACT, 0);
+        CHECK.fact(x, "3", 0, 0, 0, EXACT, 0);
+        CHECK.fact(x, "4", 1, 0, 0, EXACT, 0);
         CHECK.due("sum(0, 0)", 0, x.sum(0, 0));
         CHECK.due("sum(1, 0)", 0, x.sum(1, 0));
         CHECK.due("sum(2, 0)", 40000000L, x.sum(2, 0));
@@ -376,9 +371,9 @@ public final class ProblemTest {
         x.arc(0, 0, 0, 1, 20);
         x.arc(0, 0, 0, 1, 20);
         x.arc(0, 0, 0, 0, -10);
-        fact(x, "6", 0, 0, 0, EXACT, 0);
+        CHECK.fact(x, "6", 0, 0, 0, EXACT, 0);
         CHECK.due("itself alone", -60000000L, x.sum(0, 0));
-        fact(x, "4", 1, 0, 0, EXACT, 0);
+        CHECK.fact(x, "4", 1, 0, 0, EXACT, 0);
         CHECK.due("a part for each arc that is left", 60000000L, x.sum(0, 0));
         CHECK.problems("agrees", x);
     }
@@ -386,8 +381,8 @@ public final class ProblemTest {
     private static void dueAgreement(boolean agrees, String total, int places, String part, int n) {
         FactBinder x = withMoney();
         x.arc(0, 0, 0, 1, n);
-        fact(x, total, 0, 0, 0, DECIMALS, places);
-        fact(x, part, 1, 0, 0, EXACT, 0);
+        CHECK.fact(x, total, 0, 0, 0, DECIMALS, places);
+        CHECK.fact(x, part, 1, 0, 0, EXACT, 0);
         String state = total + " to " + places + " against " + n + " tenths of " + part;
         if (agrees) {
             CHECK.problems(state, x);
@@ -422,44 +417,44 @@ public final class ProblemTest {
     private static void precisionZeroNeverAgrees() {
         FactBinder x = withMoney();
         x.arc(0, 0, 0, 1, 10);
-        fact(x, "0", 0, 0, 0, EXACT, 0);
-        fact(x, "0", 1, 0, 0, PRECISION, 0);
+        CHECK.fact(x, "0", 0, 0, 0, EXACT, 0);
+        CHECK.fact(x, "0", 1, 0, 0, PRECISION, 0);
         CHECK.due("the sum is 0", 0, x.sum(0, 0));
         CHECK.problems("a part of PRECISION 0", x, 90000);
 
         FactBinder y = withMoney();
         y.arc(0, 0, 0, 1, 10);
-        fact(y, "0", 0, 0, 0, PRECISION, 0);
-        fact(y, "0", 1, 0, 0, EXACT, 0);
+        CHECK.fact(y, "0", 0, 0, 0, PRECISION, 0);
+        CHECK.fact(y, "0", 1, 0, 0, EXACT, 0);
         CHECK.problems("a total of PRECISION 0", y, 90000);
 
         FactBinder z = withMoney();
         z.arc(0, 0, 0, 1, 10);
         z.arc(0, 0, 0, 2, 10);
-        fact(z, "0", 0, 0, 0, PRECISION, 1);
-        fact(z, "0", 1, 0, 0, DECIMALS, 0);
+        CHECK.fact(z, "0", 0, 0, 0, PRECISION, 1);
+        CHECK.fact(z, "0", 1, 0, 0, DECIMALS, 0);
         CHECK.problems("PRECISION 1 and DECIMALS 0 may agree", z);
-        fact(z, "0", 2, 0, 0, PRECISION, 0);
+        CHECK.fact(z, "0", 2, 0, 0, PRECISION, 0);
         CHECK.problems("the last part is of PRECISION 0", z, 90000);
 
         FactBinder w = withMoney();
         w.arc(0, 0, 0, 1, 10);
         w.arc(0, 0, 0, 2, 10);
-        fact(w, "0", 0, 0, 0, EXACT, 0);
-        fact(w, "0", 1, 0, 0, PRECISION, 0);
-        fact(w, "0", 2, 0, 0, EXACT, 0);
-        fact(w, "0", 2, 0, 1, PRECISION, 0);
+        CHECK.fact(w, "0", 0, 0, 0, EXACT, 0);
+        CHECK.fact(w, "0", 1, 0, 0, PRECISION, 0);
+        CHECK.fact(w, "0", 2, 0, 0, EXACT, 0);
+        CHECK.fact(w, "0", 2, 0, 1, PRECISION, 0);
         CHECK.problems("the first part is of PRECISION 0", w, 90000);
-        fact(w, "1", 0, 0, 1, EXACT, 0);
-        fact(w, "1", 1, 0, 1, EXACT, 0);
+        CHECK.fact(w, "1", 0, 0, 1, EXACT, 0);
+        CHECK.fact(w, "1", 1, 0, 1, EXACT, 0);
         CHECK.problems("the last part of another total is", w, 90000, 90004);
 
         FactBinder v = withMoney();
         v.arc(0, 0, 0, 1, 10);
-        fact(v, "0", 0, 0, 0, EXACT, 0);
-        fact(v, "0", 1, 0, 0, PRECISION, 0);
-        fact(v, "1", 0, 0, 1, EXACT, 0);
-        fact(v, "1", 1, 0, 1, EXACT, 0);
+        CHECK.fact(v, "0", 0, 0, 0, EXACT, 0);
+        CHECK.fact(v, "0", 1, 0, 0, PRECISION, 0);
+        CHECK.fact(v, "1", 0, 0, 1, EXACT, 0);
+        CHECK.fact(v, "1", 1, 0, 1, EXACT, 0);
         CHECK.problems("the total after it agrees", v, 90000);
     }
 
@@ -468,8 +463,8 @@ public final class ProblemTest {
         for (int a = 0; a < 32; a++) {
             x.arc(0, 0, 0, 1, 90 - a);
         }
-        fact(x, "1", 0, 0, 0, DECIMALS, -9);
-        fact(x, "-999999999.999999", 1, 0, 0, DECIMALS, -9);
+        CHECK.fact(x, "1", 0, 0, 0, DECIMALS, -9);
+        CHECK.fact(x, "-999999999.999999", 1, 0, 0, DECIMALS, -9);
         CHECK.due("thirty-two arcs", -2384000000000000000L, x.sum(0, 0));
         CHECK.problems("do not agree", x, 90000);
     }
@@ -489,7 +484,7 @@ public final class ProblemTest {
         }
         x.context(0, -1, 0, 0);
         for (int f = 0; f < 20; f++) {
-            fact(x, "1", 0, 0, -1, EXACT, 0);
+            CHECK.fact(x, "1", 0, 0, -1, EXACT, 0);
         }
         CHECK.due("20 units, 19 twins, 32 cycles", 71, x.problems());
         CHECK.due("problem(0)", 20000, x.problem(0));
@@ -513,8 +508,8 @@ public final class ProblemTest {
         x.unit(9, 0, 0);
         for (int day = 0; day < 10; day++) {
             x.context(0, -1, day, 0);
-            fact(x, "1", 0, day, 0, EXACT, 0);
-            fact(x, "1", 0, day, 1, EXACT, 0);
+            CHECK.fact(x, "1", 0, day, 0, EXACT, 0);
+            CHECK.fact(x, "1", 0, day, 1, EXACT, 0);
         }
         int[] want = new int[92];
         for (int k = 0; k < 32; k++) {

@@ -1,0 +1,106 @@
+import java.io.IOException;
+import java.lang.reflect.Executable;
+import java.lang.reflect.Field;
+import java.lang.reflect.Modifier;
+import java.nio.file.Files;
+import java.nio.file.Path;
+import java.util.ArrayList;
+import java.util.Arrays;
+import java.util.HashSet;
+import java.util.List;
+import java.util.Set;
+import java.util.regex.Matcher;
+import java.util.regex.Pattern;
+
+/** The rules of LANGUAGE.md that can be seen from the program's text and its classes. */
+public final class LanguageTest {
+    private static final Path PROGRAM = Path.of("src/main/java/FactBinder.java");
+    private static final Set<String> LIBRARY = Set.of("Math");
+    private static final Set<String> REFUSED_WORDS = Set.of(
+            "import", "package", "throw", "throws", "try", "catch", "finally", "synchronized", "assert", "native",
+            "volatile", "transient", "protected", "double", "float", "lambda", "var", "goto");
+    private static final int MOST_LINES = 60;
+    private static final int MOST_PARAMETERS = 7;
+    private static final int MOST_CLASSES = 12;
+    private static final int MOST_FIELDS = 20;
+    private static final Check CHECK = new Check("LanguageTest");
+
+    public static void main(String[] args) throws IOException {
+        List<Class<?>> classes = new ArrayList<>(List.of(FactBinder.class));
+        classes.addAll(Arrays.asList(FactBinder.class.getDeclaredClasses()));
+        CHECK.yes("classes: " + classes.size(), classes.size() <= MOST_CLASSES);
+        for (Class<?> one : classes) {
+            CHECK.due(one + " holds no class deeper in", one == FactBinder.class ? classes.size() - 1 : 0, one.getDeclaredClasses().length);
+            fieldsAreAllowed(one);
+            parametersAreFew(one);
+        }
+        String text = Files.readString(PROGRAM);
+        wordsAreAllowed(withoutComments(text), classes);
+        methodsAreShort(text);
+        CHECK.finish();
+    }
+
+    private static void fieldsAreAllowed(Class<?> one) {
+        int fields = 0;
+        for (Field field : one.getDeclaredFields()) {
+            boolean isStatic = Modifier.isStatic(field.getModifiers());
+            fields += isStatic ? 0 : 1;
+            CHECK.yes(field + " is final if static", !isStatic || Modifier.isFinal(field.getModifiers()));
+            CHECK.yes(field + " is of an allowed type", isAllowed(field.getType()));
+        }
+        CHECK.yes(one + ": fields: " + fields, fields <= MOST_FIELDS);
+    }
+
+    private static boolean isAllowed(Class<?> type) {
+        Class<?> element = type.isArray() ? type.getComponentType() : type;
+        boolean isOwn = element.getDeclaringClass() == FactBinder.class;
+        return element.isPrimitive() && element != double.class && element != float.class || isOwn;
+    }
+
+    private static void parametersAreFew(Class<?> one) {
+        List<Executable> all = new ArrayList<>(Arrays.asList(one.getDeclaredMethods()));
+        all.addAll(Arrays.asList(one.getDeclaredConstructors()));
+        for (Executable each : all) {
+            CHECK.yes(each + " has few parameters", each.getParameterCount() <= MOST_PARAMETERS);
+        }
+    }
+
+    private static String withoutComments(String text) {
+        return text.replaceAll("(?s)/\\*.*?\\*/", " ").replaceAll("//[^\n]*", " ");
+    }
+
+    private static void wordsAreAllowed(String code, List<Class<?>> classes) {
+        Set<String> names = new HashSet<>(LIBRARY);
+        for (Class<?> one : classes) {
+            names.add(one.getSimpleName());
+        }
+        Matcher word = Pattern.compile("[A-Za-z_][A-Za-z_0-9]*").matcher(code);
+        while (word.find()) {
+            String found = word.group();
+            CHECK.no("the word " + found, REFUSED_WORDS.contains(found));
+            boolean isTypeName = Character.isUpperCase(found.charAt(0)) && !found.equals(found.toUpperCase());
+            CHECK.yes("the name " + found, !isTypeName || names.contains(found));
+        }
+        CHECK.no("a lambda", code.contains("->"));
+        CHECK.no("a method reference", code.contains("::"));
+    }
+
+    /** A member's closing brace stands below the first letter of its first line. */
+    private static void methodsAreShort(String text) {
+        String[] lines = text.split("\n");
+        Pattern start = Pattern.compile("^( {4}| {8})(public|private)[^=;]*\\(.*");
+        int methods = 0;
+        for (int at = 0; at < lines.length; at++) {
+            Matcher first = start.matcher(lines[at]);
+            if (first.matches()) {
+                int end = at;
+                while (end < lines.length && !lines[end].equals(first.group(1) + "}")) {
+                    end++;
+                }
+                methods++;
+                CHECK.yes("short enough: " + lines[at].trim(), end - at + 1 <= MOST_LINES);
+            }
+        }
+        CHECK.yes("methods were found: " + methods, methods > 50);
+    }
+}

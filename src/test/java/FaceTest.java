@@ -35,7 +35,7 @@ public final class FaceTest {
         CHECK.finish();
     }
 
-    private static String told(Method method) {
+    static String told(Method method) {
         StringBuilder text = new StringBuilder(method.getReturnType() + " " + method.getName() + "(");
         for (Class<?> parameter : method.getParameterTypes()) {
             text.append(text.charAt(text.length() - 1) == '(' ? "" : ",").append(parameter);

@@ -8,7 +8,9 @@ import java.util.ArrayList;
 import java.util.Arrays;
 import java.util.HashSet;
 import java.util.List;
+import java.util.Map;
 import java.util.Set;
+import java.util.TreeMap;
 import java.util.regex.Matcher;
 import java.util.regex.Pattern;
 
@@ -18,11 +20,14 @@ public final class LanguageTest {
     private static final Set<String> LIBRARY = Set.of("Math");
     private static final Set<String> REFUSED_WORDS = Set.of(
             "import", "package", "throw", "throws", "try", "catch", "finally", "synchronized", "assert", "native",
-            "volatile", "transient", "protected", "double", "float", "lambda", "var", "goto");
+            "volatile", "transient", "protected", "double", "float", "var");
     private static final int MOST_LINES = 60;
     private static final int MOST_PARAMETERS = 7;
     private static final int MOST_CLASSES = 12;
     private static final int MOST_FIELDS = 20;
+    private static final int MOST_DEPTH = 8;
+    private static final Pattern MEMBER = Pattern.compile("^( {4}| {8})(?:public|private)[^=;(]*\\b(\\w+)\\(.*");
+    private static final Pattern CALL = Pattern.compile("\\b(\\w+)\\(");
     private static final Check CHECK = new Check("LanguageTest");
 
     public static void main(String[] args) throws IOException {
@@ -36,7 +41,11 @@ public final class LanguageTest {
         }
         String text = Files.readString(PROGRAM);
         wordsAreAllowed(withoutComments(text), classes);
-        methodsAreShort(text);
+        Map<String, String> bodies = bodies(withoutComments(text));
+        CHECK.yes("methods were found: " + bodies.size(), bodies.size() > 50);
+        for (String name : bodies.keySet()) {
+            callsAreShallow(name, 1, bodies);
+        }
         CHECK.finish();
     }
 
@@ -85,22 +94,36 @@ public final class LanguageTest {
         CHECK.no("a method reference", code.contains("::"));
     }
 
-    /** A member's closing brace stands below the first letter of its first line. */
-    private static void methodsAreShort(String text) {
-        String[] lines = text.split("\n");
-        Pattern start = Pattern.compile("^( {4}| {8})(public|private)[^=;]*\\(.*");
-        int methods = 0;
+    /**
+     * The lines of each method and constructor by its name, those of one name together. A member's
+     * closing brace stands below the first letter of its first line.
+     */
+    private static Map<String, String> bodies(String code) {
+        Map<String, String> bodies = new TreeMap<>();
+        String[] lines = code.split("\n");
         for (int at = 0; at < lines.length; at++) {
-            Matcher first = start.matcher(lines[at]);
+            Matcher first = MEMBER.matcher(lines[at]);
             if (first.matches()) {
                 int end = at;
                 while (end < lines.length && !lines[end].equals(first.group(1) + "}")) {
                     end++;
                 }
-                methods++;
                 CHECK.yes("short enough: " + lines[at].trim(), end - at + 1 <= MOST_LINES);
+                String body = String.join("\n", Arrays.copyOfRange(lines, at + 1, end));
+                bodies.merge(first.group(2), body, (one, other) -> one + "\n" + other);
             }
         }
-        CHECK.yes("methods were found: " + methods, methods > 50);
+        return bodies;
+    }
+
+    /** A method that calls itself, by way of others too, goes too deep at once. */
+    private static void callsAreShallow(String name, int depth, Map<String, String> bodies) {
+        CHECK.yes("calls down to " + name + ": " + depth, depth <= MOST_DEPTH);
+        Matcher call = CALL.matcher(depth <= MOST_DEPTH ? bodies.get(name) : "");
+        while (call.find()) {
+            if (bodies.containsKey(call.group(1))) {
+                callsAreShallow(call.group(1), depth + 1, bodies);
+            }
+        }
     }
 }
